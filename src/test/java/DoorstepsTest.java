@@ -98,6 +98,9 @@ public final class DoorstepsTest {
         for (int i = 0; i < 20; i++) {
             x.addDoorstep(i % 9 + 1);
         }
+        check.due("3: removeDoorstep(0) of 20", -1, () -> x.removeDoorstep(0));
+        check.due("3: pints(18) of 19", 2, () -> x.pints(18));
+        x.undo();
         check.due("3: removeDoorstep(19) of 20", -1, () -> x.removeDoorstep(19));
         check.due("3: removeDoorstep(0) of 19", -1, () -> x.removeDoorstep(0));
         for (int i = 0; i < 18; i++) {

@@ -46,6 +46,11 @@ public final class ForecastTest {
         // quotas 3 and 2; 0 keeps 8, 8, 3; then 5 and 3 go to 1
         forecasts("ordinary", x, new int[] {0, 0, 1, 0, 1}, new int[] {0, 0, 3, 0, 2});
         check.due("24: ordinary", 2, () -> x.changesToCome());
+        // a forecast does not stay from the one before it
+        check.due("25: the other one leaves", 1, () -> x.changesIf(1));
+        check.due("23: reason(2) behind it", 3, () -> x.reason(2));
+        check.due("25: the other one leaves", 1, () -> x.changesIf(1));
+        check.due("22: ifPlanned(2) behind it", 1, () -> x.ifPlanned(2));
         for (int wrong : new int[] {-1, 5, Integer.MIN_VALUE, Integer.MAX_VALUE}) {
             String end = "(" + wrong + ")";
             check.dueThrow("22: ifPlanned" + end, x, IndexOutOfBoundsException.class, () -> x.ifPlanned(wrong));
@@ -109,6 +114,16 @@ public final class ForecastTest {
         check.dueDouble("26: one round again", 0.0, () -> x.unevenness());
         x.leave(3);
         check.dueDouble("26: nobody at work", 0.0, () -> x.unevenness());
+        DoorstepRounds y = Check.dairy(Check.milkmen(1, 2), 6);
+        Check.share(y);
+        check.dueDouble("26: 1 and 0 of 1", 1.0, () -> y.unevenness());
+        y.come(0);
+        y.plan();
+        check.dueDouble("26: no changes, no handover", 1.0, () -> y.unevenness());
+        y.addDoorstep(3);
+        y.addDoorstep(3);
+        y.removeDoorstep(0);
+        check.dueDouble("26: empty rounds again", 0.0, () -> y.unevenness());
     }
 
     private static void changeNothing() {

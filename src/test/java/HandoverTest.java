@@ -11,6 +11,7 @@ public final class HandoverTest {
         handOver();
         callOff();
         undoOfSteps();
+        undoIntoAnotherHandover();
         planned();
         check.end();
     }
@@ -187,6 +188,27 @@ public final class HandoverTest {
         x.undo();
         check.due("16: handover() behind three undos", 0, () -> x.handover());
         check.due("17: planned(0) behind three undos", 2, () -> x.planned(0));
+    }
+
+    private static void undoIntoAnotherHandover() {
+        DoorstepRounds x = Check.dairy(Check.milkmen(2), 1, 2);
+        Check.share(x);
+        x.come(0);
+        x.plan();
+        x.handOver();
+        planned("17: the first plan", x, 0, 2);
+        owners("14: given up", x, -1, 2);
+        x.callOff();
+        x.leave(2);
+        check.due("13: plan() of another handover", 2, () -> x.plan());
+        planned("17: the second plan", x, 0, 0);
+        x.undo();
+        x.undo();
+        x.undo();
+        check.due("16: handover() of the first plan", 2, () -> x.handover());
+        planned("17: the first plan again", x, 0, 2);
+        check.due("15: callOff() of the first plan", 1, () -> x.callOff());
+        owners("15: given back", x, 2, 2);
     }
 
     private static void planned() {
