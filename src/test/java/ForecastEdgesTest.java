@@ -255,6 +255,8 @@ public final class ForecastEdgesTest {
         check.dueDouble("2, 2 and 0", 0.5, () -> x.unevenness());
         DoorstepRounds three = Dairies.owned(row(0, 3, 5), row(9, 1, 1, 1, 1, 1, 1, 1), row(0, 3, 3, 3, 5, 5, N, N));
         check.dueDouble("1, 3 and 2 of 8, by size and not by load", 0.25, () -> three.unevenness());
+        check.dueDouble("0 and 0 of 3, all are nobody's", 0.0, () -> Dairies.fresh(3, 2).unevenness());
+        check.dueDouble("0 of 20, all are nobody's", 0.0, () -> Dairies.fresh(20, 1).unevenness());
     }
 
     private static void dividedByDoorsteps() {

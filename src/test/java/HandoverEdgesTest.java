@@ -13,7 +13,7 @@ public final class HandoverEdgesTest {
             HandoverEdgesTest::refusedInHandover, HandoverEdgesTest::allowedBehindHandover,
             HandoverEdgesTest::callOffBeforeFirstStep, HandoverEdgesTest::callOffBehindFirstStep,
             HandoverEdgesTest::callOffOfSecondHandover, HandoverEdgesTest::noHandoverWithoutChanges,
-            HandoverEdgesTest::planRefused, HandoverEdgesTest::handOverReturns,
+            HandoverEdgesTest::planRefused, HandoverEdgesTest::handOverReturns, HandoverEdgesTest::removedTakesNoPart,
             HandoverEdgesTest::handOverWithoutHandover, HandoverEdgesTest::callOffWithoutHandover,
             HandoverEdgesTest::callOffReturns, HandoverEdgesTest::handoverReturns,
             HandoverEdgesTest::plannedReturns, HandoverEdgesTest::plannedWithoutHandover,
@@ -233,6 +233,53 @@ public final class HandoverEdgesTest {
         z.plan();
         check.due("handOver() of those with a milkman", 2, () -> z.handOver());
         check.due("handOver() of those, and nobody's", 3, () -> z.handOver());
+    }
+
+    private static void removedTakesNoPart() {
+        check.says("Returns the number of doorsteps that are given up, or taken over (and of none that was removed)");
+        DoorstepRounds x = Dairies.freshAndShared(4, 1);
+        x.setPints(3, 9);
+        x.come(1);
+        check.due("plan() of four", 2, () -> x.plan());
+        check.planned("of four", x, 0, 1, 1, 0);
+        x.callOff();
+        x.removeDoorstep(3);
+        check.due("changesToCome() of three", 1, () -> x.changesToCome());
+        check.due("plan() of three", 1, () -> x.plan());
+        check.planned("of three", x, 0, 0, 1);
+        check.due("handOver() of the first step", 1, () -> x.handOver());
+        check.due("handOver() of the second step", 1, () -> x.handOver());
+        check.due("changed()", 5, () -> x.changed());
+        check.sizes("of three", x, 2, 1);
+        removedAtTheEnd();
+        removedOfTwenty();
+    }
+
+    private static void removedAtTheEnd() {
+        DoorstepRounds x = Dairies.freshAndShared(4, 1);
+        x.come(1);
+        x.plan();
+        check.planned("of four", x, 0, 0, 1, 1);
+        x.callOff();
+        x.removeDoorstep(3);
+        x.plan();
+        check.due("handOver() without the one that shall not move any more", 1, () -> x.handOver());
+        check.due("callOff()", 1, () -> x.callOff());
+        x.plan();
+        x.handOver();
+        check.due("handOver() of the second step", 1, () -> x.handOver());
+        check.due("changed()", 5, () -> x.changed());
+    }
+
+    private static void removedOfTwenty() {
+        DoorstepRounds x = Dairies.fresh(20, 1);
+        x.setPints(19, 9);
+        x.removeDoorstep(19);
+        check.due("plan() of 19", 19, () -> x.plan());
+        check.planned("of 19", x, Dairies.same(19, 0));
+        check.due("handOver() of the first step", 0, () -> x.handOver());
+        check.due("handOver() of the second step", 19, () -> x.handOver());
+        check.due("load(0)", 19, () -> x.load(0));
     }
 
     private static void handOverWithoutHandover() {
